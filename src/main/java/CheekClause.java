@@ -923,8 +923,8 @@ public final class CheekClause {
                 second[clauses] = otherDeed;
                 man[clauses] = onMan;
                 ink[clauses] = inkTold;
-                straightSets[clauses] = setsOfForm(formTold, deed, otherDeed);
-                turnedSets[clauses] = setsOfTurned(formTold, deed, otherDeed);
+                straightSets[clauses] = straightOf(formTold, setsWith(deed), setsWith(otherDeed));
+                turnedSets[clauses] = turnedOf(formTold, setsWith(deed), setsWith(otherDeed));
                 clauses++;
             }
         }
@@ -988,9 +988,8 @@ public final class CheekClause {
             return sets;
         }
 
-        private static long setsOfForm(int form, int deed, int otherDeed) {
-            long a = setsWith(deed);
-            long b = setsWith(otherDeed);
+        /** The sets that keep a form, by the sets that have its deeds. */
+        private static long straightOf(int form, long a, long b) {
             switch (form) {
                 case MUST: return a;
                 case MUSTNT: return ~a;
@@ -1001,14 +1000,14 @@ public final class CheekClause {
             }
         }
 
-        private static long setsOfTurned(int form, int deed, int otherDeed) {
+        private static long turnedOf(int form, long a, long b) {
             switch (form) {
-                case MUST: return setsOfForm(MUSTNT, deed, otherDeed);
-                case MUSTNT: return setsOfForm(MUST, deed, otherDeed);
-                case IF: return setsOfForm(IF, otherDeed, deed);
-                case UNLESS: return setsOfForm(NOTBOTH, deed, otherDeed);
-                case NOTBOTH: return setsOfForm(UNLESS, deed, otherDeed);
-                default: return ~setsOfForm(EITHER, deed, otherDeed);
+                case MUST: return straightOf(MUSTNT, a, b);
+                case MUSTNT: return straightOf(MUST, a, b);
+                case IF: return straightOf(IF, b, a);
+                case UNLESS: return straightOf(NOTBOTH, a, b);
+                case NOTBOTH: return straightOf(UNLESS, a, b);
+                default: return ~straightOf(EITHER, a, b);
             }
         }
     }
@@ -1020,13 +1019,8 @@ public final class CheekClause {
         private int turned;
         private int days;
 
-        private Page() {
-            for (int c = 0; c < CLAUSE_ROOM; c++) {
-                man[c] = NONE;
-            }
-        }
-
         private void clear() {
+            // a clause that is not pressed yet is on nobody, so that nothing blurs it
             for (int c = 0; c < CLAUSE_ROOM; c++) {
                 ink[c] = 0;
                 man[c] = NONE;
@@ -1330,6 +1324,7 @@ public final class CheekClause {
         private int faultPlace;
 
         private Reader() {
+            // in the order of CITY to DID, so that a place in the row is a sort of line
             keywords = new long[] {
                 packed("city"), packed("man"), packed("deed"), packed("clause"), packed("unsure"), packed("did")};
             city = new City();

@@ -137,6 +137,7 @@ public final class PromiseTest {
         faultAt(base + ";did p day 1 kept ", ",", 1);
         faultAt(base + ";did p day 1 kept ", "5", 1);
         faultAt(base + ";did p day 1 kept a ", "b", 1);
+        faultAt(base + ";did p day 1 kept a", "#b", 1);
         faultAt(base + ";did p day 1 kept a,", "", 1);
         faultAt(base + ";did p day 1 kept a,", ";", 1);
         faultAt(base + ";did p day 1 kept a,", "did", 1);
