@@ -81,96 +81,77 @@ public final class PromiseTest {
         DUE.is("four men", Due.tell(x, HEAD + "man a;man b;man c;man d;deed e"), 4);
     }
 
-    private static void fault(String text, int number, int place) {
-        CheekClause x = DUE.told(BARE);
-        DUE.no(x, "city of " + text, Due.tell(x, text), 4);
-        DUE.is("fault() of " + text, x.fault(), number);
-        DUE.is("where() of " + text, x.where(), place);
-        DUE.is("the city stays", x.size(3), 1);
-    }
-
-    private static void faultAt(String before, String there, int number) {
-        fault(before + there, number, before.length());
-    }
-
-    private static void fine(String text, int men) {
-        CheekClause x = new CheekClause();
-        DUE.is("city of " + text, Due.tell(x, text), men);
-        DUE.is("fault() of " + text, x.fault(), 0);
-        DUE.is("where() of " + text, x.where(), -1);
-    }
-
     private static void p4FaultsOfForm() {
         String base = HEAD + "man p;deed a;deed b;clause s on p ink 5 must a";
-        faultAt("", "", 1);
-        faultAt("   ", "", 1);
-        faultAt("", "town", 1);
-        faultAt("", "5", 1);
-        faultAt("", ";", 1);
-        faultAt("  ", "City", 1);
-        faultAt("city ", "5", 1);
-        faultAt("city blur ", "x", 1);
-        faultAt("city blur ", "", 1);
-        faultAt("city blur 1 ", "rain 5", 1);
-        faultAt("city blur 1 slips 2 rain 3 ", ",", 1);
-        faultAt("city blur ", "1000", 1);
-        faultAt("city blur 1 slips 5 rain 5", "\t;man p", 1);
-        faultAt(HEAD, "", 1);
-        faultAt(HEAD, ";", 1);
-        faultAt(HEAD + "man p;deed a;", "", 1);
-        faultAt(HEAD + "man p;deed a;  ", "", 1);
-        faultAt(HEAD + "man ", "abcdefghi", 1);
-        faultAt(HEAD + "man ", "5", 1);
-        faultAt(HEAD + "man ", "clause", 1);
-        faultAt(HEAD + "man p ", "q", 1);
-        faultAt(base + ";deed ", "unsure", 1);
-        faultAt(base + " ", "b", 1);
-        faultAt(base + ";clause t on p ink 5 ", "may a", 1);
-        faultAt(base + ";clause t on p ink 5 if a", ";man q", 1);
-        faultAt(base + ";clause t on p ink 5 if a b ", "a", 1);
-        faultAt(base + ";clause t on p ", "5", 1);
-        faultAt(base + ";clause t on ", "man", 1);
-        faultAt(base + ";unsure ", "", 1);
-        faultAt(base + ";unsure s ", "s", 1);
-        faultAt(base + ";did p day 1 ", "", 1);
-        faultAt(base + ";did p day 1 ", "done", 1);
-        faultAt(base + ";did p day 1 kept ", ",", 1);
-        faultAt(base + ";did p day 1 kept ", "5", 1);
-        faultAt(base + ";did p day 1 kept a ", "b", 1);
-        faultAt(base + ";did p day 1 kept a", "#b", 1);
-        faultAt(base + ";did p day 1 kept a,", "", 1);
-        faultAt(base + ";did p day 1 kept a,", ";", 1);
-        faultAt(base + ";did p day 1 kept a,", "did", 1);
-        faultAt(base, "" + (char) 200, 1);
-        faultAt(base, "" + (char) 0, 1);
+        DUE.faultAt("", "", 1);
+        DUE.faultAt("   ", "", 1);
+        DUE.faultAt("", "town", 1);
+        DUE.faultAt("", "5", 1);
+        DUE.faultAt("", ";", 1);
+        DUE.faultAt("  ", "City", 1);
+        DUE.faultAt("city ", "5", 1);
+        DUE.faultAt("city blur ", "x", 1);
+        DUE.faultAt("city blur ", "", 1);
+        DUE.faultAt("city blur 1 ", "rain 5", 1);
+        DUE.faultAt("city blur 1 slips 2 rain 3 ", ",", 1);
+        DUE.faultAt("city blur ", "1000", 1);
+        DUE.faultAt("city blur 1 slips 5 rain 5", "\t;man p", 1);
+        DUE.faultAt(HEAD, "", 1);
+        DUE.faultAt(HEAD, ";", 1);
+        DUE.faultAt(HEAD + "man p;deed a;", "", 1);
+        DUE.faultAt(HEAD + "man p;deed a;  ", "", 1);
+        DUE.faultAt(HEAD + "man ", "abcdefghi", 1);
+        DUE.faultAt(HEAD + "man ", "5", 1);
+        DUE.faultAt(HEAD + "man ", "clause", 1);
+        DUE.faultAt(HEAD + "man p ", "q", 1);
+        DUE.faultAt(base + ";deed ", "unsure", 1);
+        DUE.faultAt(base + " ", "b", 1);
+        DUE.faultAt(base + ";clause t on p ink 5 ", "may a", 1);
+        DUE.faultAt(base + ";clause t on p ink 5 if a", ";man q", 1);
+        DUE.faultAt(base + ";clause t on p ink 5 if a b ", "a", 1);
+        DUE.faultAt(base + ";clause t on p ", "5", 1);
+        DUE.faultAt(base + ";clause t on ", "man", 1);
+        DUE.faultAt(base + ";unsure ", "", 1);
+        DUE.faultAt(base + ";unsure s ", "s", 1);
+        DUE.faultAt(base + ";did p day 1 ", "", 1);
+        DUE.faultAt(base + ";did p day 1 ", "done", 1);
+        DUE.faultAt(base + ";did p day 1 kept ", ",", 1);
+        DUE.faultAt(base + ";did p day 1 kept ", "5", 1);
+        DUE.faultAt(base + ";did p day 1 kept a ", "b", 1);
+        DUE.faultAt(base + ";did p day 1 kept a", "#b", 1);
+        DUE.faultAt(base + ";did p day 1 kept a,", "", 1);
+        DUE.faultAt(base + ";did p day 1 kept a,", ";", 1);
+        DUE.faultAt(base + ";did p day 1 kept a,", "did", 1);
+        DUE.faultAt(base, "" + (char) 200, 1);
+        DUE.faultAt(base, "" + (char) 0, 1);
     }
 
     private static void p4OtherFaults() {
         String base = HEAD + "man p;deed a;deed b;clause s on p ink 5 must a";
-        faultAt(base + ";clause t on ", "q", 2);
-        faultAt(base + ";clause t on ", "t", 2);
-        faultAt(base + ";clause t on ", "a ink 99", 2);
-        faultAt(base + ";clause t on p ink 5 must ", "p", 2);
-        faultAt(base + ";clause t on p ink 5 if a ", "c", 2);
-        faultAt(base + ";unsure ", "a", 2);
-        faultAt(base + ";unsure ", "t", 2);
-        faultAt(base + ";did ", "s", 2);
-        faultAt(base + ";did p day 1 breach a,", "p", 2);
-        faultAt(base + ";man ", "p", 3);
-        faultAt(base + ";deed ", "s", 3);
-        faultAt(base + ";clause ", "b on p", 3);
-        faultAt(base + ";clause t on p ink 5 either b ", "b", 3);
-        faultAt(base + ";unsure s;unsure ", "s", 3);
-        faultAt(base + ";did p day 1 kept a,b,", "a", 3);
-        faultAt(base + ";", "city", 3);
-        faultAt("city blur ", "10 slips 5", 4);
-        faultAt("city blur 1 slips ", "101", 4);
-        faultAt("city blur 1 slips 100 rain ", "101", 4);
-        faultAt(base + ";clause t on p ink ", "0", 4);
-        faultAt(base + ";clause t on p ink ", "41", 4);
-        faultAt(base + ";did p day ", "41", 4);
-        faultAt(HEAD + "man a;man b;man c;man d;", "man e", 5);
-        faultAt(HEAD + "deed a;deed b;deed c;deed d;deed e;deed f;", "deed", 5);
+        DUE.faultAt(base + ";clause t on ", "q", 2);
+        DUE.faultAt(base + ";clause t on ", "t", 2);
+        DUE.faultAt(base + ";clause t on ", "a ink 99", 2);
+        DUE.faultAt(base + ";clause t on p ink 5 must ", "p", 2);
+        DUE.faultAt(base + ";clause t on p ink 5 if a ", "c", 2);
+        DUE.faultAt(base + ";unsure ", "a", 2);
+        DUE.faultAt(base + ";unsure ", "t", 2);
+        DUE.faultAt(base + ";did ", "s", 2);
+        DUE.faultAt(base + ";did p day 1 breach a,", "p", 2);
+        DUE.faultAt(base + ";man ", "p", 3);
+        DUE.faultAt(base + ";deed ", "s", 3);
+        DUE.faultAt(base + ";clause ", "b on p", 3);
+        DUE.faultAt(base + ";clause t on p ink 5 either b ", "b", 3);
+        DUE.faultAt(base + ";unsure s;unsure ", "s", 3);
+        DUE.faultAt(base + ";did p day 1 kept a,b,", "a", 3);
+        DUE.faultAt(base + ";", "city", 3);
+        DUE.faultAt("city blur ", "10 slips 5", 4);
+        DUE.faultAt("city blur 1 slips ", "101", 4);
+        DUE.faultAt("city blur 1 slips 100 rain ", "101", 4);
+        DUE.faultAt(base + ";clause t on p ink ", "0", 4);
+        DUE.faultAt(base + ";clause t on p ink ", "41", 4);
+        DUE.faultAt(base + ";did p day ", "41", 4);
+        DUE.faultAt(HEAD + "man a;man b;man c;man d;", "man e", 5);
+        DUE.faultAt(HEAD + "deed a;deed b;deed c;deed d;deed e;deed f;", "deed", 5);
         String clause = ";clause s%s on p ink 1 must a";
         String eight = HEAD + "man p;deed a";
         String five = "";
@@ -178,27 +159,27 @@ public final class PromiseTest {
             eight += String.format(clause, "abcdefgh".charAt(i));
             five += i < 5 ? ";unsure s" + "hgfed".charAt(i) : "";
         }
-        faultAt(eight + ";", "clause a", 5);
-        faultAt(eight + five + ";", "unsure sa", 5);
+        DUE.faultAt(eight + ";", "clause a", 5);
+        DUE.faultAt(eight + five + ";", "unsure sa", 5);
         String six = HEAD + "man p;deed a";
         for (int i = 0; i < 6; i++) {
             six += ";did p day " + i + " kept";
         }
-        faultAt(six + ";", "did p day 1 kept", 5);
-        faultAt("", "man 5", 6);
-        faultAt("  ", "did", 6);
-        faultAt(HEAD + "man p", "", 6);
-        faultAt(HEAD + "deed a  ", "", 6);
-        faultAt("city blur 0 slips 0 rain 0", "", 6);
-        fine(eight + five, 1);
-        fine(six, 1);
+        DUE.faultAt(six + ";", "did p day 1 kept", 5);
+        DUE.faultAt("", "man 5", 6);
+        DUE.faultAt("  ", "did", 6);
+        DUE.faultAt(HEAD + "man p", "", 6);
+        DUE.faultAt(HEAD + "deed a  ", "", 6);
+        DUE.faultAt("city blur 0 slips 0 rain 0", "", 6);
+        DUE.fine(eight + five, 1);
+        DUE.fine(six, 1);
     }
 
     private static void p4TextsWithout() {
-        fine(BARE, 1);
-        fine("  city  blur 009slips 100rain 100 ; man on ; man ink;deed must ;deed day ; clause if on on ink 40 if must day"
+        DUE.fine(BARE, 1);
+        DUE.fine("  city  blur 009slips 100rain 100 ; man on ; man ink;deed must ;deed day ; clause if on on ink 40 if must day"
                 + "; clause kept on ink ink 1mustnt day ;unsure if;did on day 40 kept must , day;did ink day 0 breach ", 2);
-        fine("city blur 0 slips 0 rain 0;deed a;man abcdefgh;deed b", 1);
+        DUE.fine("city blur 0 slips 0 rain 0;deed a;man abcdefgh;deed b", 1);
         CheekClause x = DUE.told(PAIR);
         DUE.is("fault()", x.fault(), 0);
         Due.tell(x, "man p");
