@@ -79,6 +79,19 @@ public final class FreeEdgesTest {
         x.day();
         DUE.answers(x, "INK NOW, not as told: cheap(0)", 10, () -> x.cheap(0));
         DUE.answers(x, "INK NOW, not as told: price(0)", 3, () -> x.price(0));
+        CheekClause anew = clauses("p 5 must a", "p 4 mustnt a");
+        DUE.answers(anew, "the second has less", 2, () -> anew.cheap(0));
+        anew.day();
+        anew.day();
+        anew.press(1, 0);
+        DUE.answers(anew, "pressed anew, it has more", 1, () -> anew.cheap(0));
+        DUE.answers(anew, "price NOW", 3, () -> anew.price(0));
+        CheekClause faint = clauses("p 5 must a", "p 4 mustnt a");
+        faint.day();
+        faint.day();
+        faint.day();
+        DUE.answers(faint, "of 2 and 1 left", 2, () -> faint.cheap(0));
+        DUE.answers(faint, "price of the 1", 1, () -> faint.price(0));
         DUE.about("III: CHEAP: of like ones the least bits");
         CheekClause like = clauses("p 2 must a", "p 2 must a", "p 4 mustnt a");
         DUE.answers(like, "3 and 4, alike in INK", 3, () -> like.cheap(0));
@@ -163,6 +176,12 @@ public final class FreeEdgesTest {
         CheekClause fresh = clauses("q 1 mustnt a", "p 1 must a");
         DUE.answers(fresh, "the first of all, by one with INK 1", 1, () -> fresh.feared(0));
         DUE.answers(fresh, "the other way round", 2, () -> fresh.feared(1));
+        CheekClause changed = clauses("p 9 must a", "q 9 mustnt a", "p 9 must b");
+        changed.press(0, 1);
+        changed.press(1, 0);
+        DUE.answers(changed, "on others NOW", 1, () -> changed.feared(0));
+        changed.press(2, 1);
+        DUE.answers(changed, "what came to the other", 2, () -> changed.feared(1));
         DUE.about("23: (none, if he is STUCK)");
         DUE.answers(x, "the other is STUCK", 0, () -> x.feared(1));
         x.press(2, 0);
@@ -260,6 +279,9 @@ public final class FreeEdgesTest {
         DUE.answers(most, "1 and 2", 1, () -> most.together());
         CheekClause like = clauses("p 9 must a", "p 9 mustnt a", "p 9 must b", "p 9 mustnt b");
         DUE.answers(like, "5, 6, 9 and 10", 5, () -> like.together());
+        CheekClause gap = clauses("p 9 must a", "p 1 must a", "q 9 mustnt a");
+        gap.day();
+        DUE.answers(gap, "without the one between that BINDS no more", 1, () -> gap.together());
         DUE.about("26: 0 if nothing BINDS");
         most.wash(0);
         most.wash(1);
@@ -282,6 +304,11 @@ public final class FreeEdgesTest {
             DUE.answers(x, "ink(0, " + n + ")", Math.max(0, 40 - n), () -> x.ink(0, n));
             DUE.answers(x, "ink(1, " + n + ")", Math.max(0, 1 - n), () -> x.ink(1, n));
         }
+        CheekClause later = clauses("p 9 must a", "q 5 must a");
+        later.day();
+        later.press(1, 0);
+        DUE.answers(later, "from NOW, a day gone by", 5, () -> later.ink(0, 3));
+        DUE.answers(later, "from NOW, pressed anew", 2, () -> later.ink(1, 3));
         DUE.about("27: NONE: 1; 2");
         DUE.refusesEach(x, "ink(c, 0)", 1, Due.not(3), (y, c) -> y.ink(c, 0));
         DUE.refusesEach(x, "ink(0, n)", 2, NOT_AHEAD, (y, n) -> y.ink(0, n));

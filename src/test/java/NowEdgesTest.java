@@ -178,6 +178,8 @@ public final class NowEdgesTest {
         DUE.answers(x, "none binds: ink", 0, () -> x.man(0, 2));
         DUE.answers(x, "on the other", 6, () -> x.man(1, 0));
         DUE.answers(x, "ink on the other", 9, () -> x.man(1, 2));
+        x.day();
+        DUE.answers(x, "ink on the other, NOW", 7, () -> x.man(1, 2));
         CheekClause full = DUE.told(Due.city(0, 0, 0, "man p;man q;deed a;clause xa on p ink 40 must a;clause xb on p ink 40 must a;"
                 + "clause xc on p ink 40 must a;clause xd on p ink 40 must a;clause xe on p ink 40 must a;"
                 + "clause xf on p ink 40 must a;clause xg on p ink 40 must a;clause xh on p ink 40 must a"));
@@ -310,6 +312,8 @@ public final class NowEdgesTest {
         all.wash(4);
         DUE.answers(all, "the fourth", 8, () -> all.stuck());
         DUE.answers(all, "the fourth", 3, () -> all.mostBound());
+        CheekClause few = DUE.told(Due.city(0, 0, 0, four, "clause xa on s ink 1 must a;clause xb on s ink 1 mustnt a"));
+        DUE.answers(few, "the last of more men than clauses", 8, () -> few.stuck());
         CheekClause free = DUE.told(Due.city(0, 0, 0, four));
         DUE.answers(free, "nobody", 0, () -> free.stuck());
         CheekClause none = new CheekClause();

@@ -485,6 +485,14 @@ public final class OddsEdgesTest {
         freeBy(later, 0, 3, 3);
         later.turn(1);
         freeBy(later, 0, 2, 0);
+        DUE.about("46: from NOW");
+        CheekClause now = rainy(0, "clause r on p ink 9 must a;clause s on q ink 9 mustnt a");
+        freeBy(now, 0, 60, 0);
+        now.press(1, 0);
+        now.day();
+        freeBy(now, 0, 7, -2);
+        freeBy(now, 0, 8, 8);
+        freeBy(now, 1, 0, 0);
         DUE.about("46: nothing is changed by it");
         DUE.is("binding", dry.man(0, 1), 3);
         DUE.is("size(8)", dry.size(8), 0);

@@ -495,6 +495,40 @@ public final class TextEdgesTest {
         DUE.faultAt(base + ";unsure t;unsure s;unsure ", "t", 3);
         DUE.faultAt(base + ";unsure t ", "s", 1);
         DUE.faultAt(base + ";unsure t", ",s", 1);
+        DUE.about("I: 3 a CLAUSE unsure already; at it: each of four, in a city of one man and one deed");
+        String four = lines(lines(BARE, ";clause x# on p ink 1 must a", 5), ";unsure x#", 4) + ";unsure ";
+        for (String name : new String[] {"xa", "xb", "xc", "xd"}) {
+            DUE.faultAt(four, name, 3);
+        }
+        DUE.fine(four + "xe", 1);
+    }
+
+    private static void rowsApart() {
+        DUE.about("I: each LINE is kept as told, however many others there are");
+        CheekClause x = DUE.told("city blur 0 slips 0 rain 0;man ma;man mb;man mc;man md;deed a;deed b;deed c;deed d;deed e;deed f;"
+                + "clause xa on md ink 1 if a f;clause xb on mc ink 2 unless b a;clause xc on mb ink 3 notboth c d;"
+                + "clause xd on ma ink 4 either d b;clause xe on md ink 5 must e;clause xf on mc ink 6 mustnt f;"
+                + "clause xg on mb ink 7 if f e;clause xh on ma ink 8 must a;"
+                + "unsure xh;unsure xf;unsure xe;unsure xb;unsure xa;"
+                + "did ma day 0 kept a,b;did mb day 40 kept;did mc day 1 breach f;did md day 2 kept e;did ma day 5 kept a;did md day 0 kept e");
+        int[][] want = {{2, 0, 5, 3, 1}, {3, 1, 0, 2, 2}, {4, 2, 3, 1, 3}, {5, 3, 1, 0, 4},
+            {0, 4, -2, 3, 5}, {1, 5, -2, 2, 6}, {2, 5, 4, 1, 7}, {0, 0, -2, 0, 8}};
+        for (int c = 0; c < want.length; c++) {
+            for (int what = 0; what < 5; what++) {
+                DUE.is("clause(" + c + ", " + what + ")", x.clause(c, what), want[c][what]);
+            }
+        }
+        int[] sizes = {0, 0, 0, 4, 6, 8, 5, 6};
+        for (int what = 0; what < sizes.length; what++) {
+            DUE.is("size(" + what + ")", x.size(what), sizes[what]);
+        }
+        // neither xh nor xe can be turned, by what ma and md did; nor can xf and xb both, by which mc had done no breach
+        int[] fitting = {0, 2, 8, 16, 16 + 2, 16 + 8};
+        DUE.is("fits()", x.fits(), fitting.length);
+        for (int i = 0; i < fitting.length; i++) {
+            DUE.is("fitAt(" + i + ")", x.fitAt(i), fitting[i]);
+        }
+        DUE.is("judge()", x.judge(), -2);
     }
 
     private static void didLine() {
@@ -645,6 +679,7 @@ public final class TextEdgesTest {
         clauseLine();
         wordsLeftOut();
         unsureLine();
+        rowsApart();
         didLine();
         namesAndKeywords();
         namesNotTold();
