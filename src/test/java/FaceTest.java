@@ -7,6 +7,7 @@ import java.nio.file.Path;
 import java.util.Arrays;
 import java.util.HashSet;
 import java.util.List;
+import java.util.NoSuchElementException;
 import java.util.Set;
 import java.util.TreeSet;
 
@@ -25,6 +26,9 @@ public final class FaceTest {
     private static final List<String> FORBIDDEN = List.of("->", "::", "Exact(", "synchronized", "assert ", "finally",
             "catch", "System.out", "Random", "currentTime", "nanoTime", "hashCode", "Thread", "protected", "@", "\t");
     private static final int MOST_LINES = 60;
+    private static final int MOST_FIELDS = 20;
+    private static final int MOST_PARAMETERS = 7;
+    private static final int MOST_CLASSES = 12;
 
     private static final Due DUE = new Due();
 
@@ -44,6 +48,8 @@ public final class FaceTest {
                 found.add(m.getReturnType() + " " + m.getName() + "(" + args + ")");
                 names.add(m.getName());
                 DUE.is(m + " is of the object", Modifier.isStatic(m.getModifiers()), false);
+                List<Class<?>> thrown = m.getName().equals("led") ? List.of(NoSuchElementException.class) : List.of();
+                DUE.is(m + " throws what the document says", List.of(m.getExceptionTypes()).equals(thrown), true);
             } else {
                 DUE.is(m + " is private", Modifier.isPrivate(m.getModifiers()), true);
                 hidden.add(m.getName());
@@ -69,6 +75,29 @@ public final class FaceTest {
         DUE.is("without arguments", made[0].getParameterCount(), 0);
     }
 
+    private static void rooms(Class<?> type) {
+        int fields = 0;
+        for (Field f : type.getDeclaredFields()) {
+            boolean isStatic = Modifier.isStatic(f.getModifiers());
+            fields += isStatic ? 0 : 1;
+            DUE.is(f + " is final, if static", isStatic && !Modifier.isFinal(f.getModifiers()), false);
+        }
+        DUE.is(type + " has too many fields", fields > MOST_FIELDS, false);
+        for (Method m : type.getDeclaredMethods()) {
+            DUE.is(m + " takes too much", m.getParameterCount() > MOST_PARAMETERS, false);
+        }
+    }
+
+    private static void allRooms() {
+        Class<?>[] inner = CheekClause.class.getDeclaredClasses();
+        DUE.is("too many classes", inner.length + 1 > MOST_CLASSES, false);
+        rooms(CheekClause.class);
+        for (Class<?> type : inner) {
+            rooms(type);
+            DUE.is(type + " has classes inside", type.getDeclaredClasses().length, 0);
+        }
+    }
+
     private static void source(Path path) throws java.io.IOException {
         List<String> lines = Files.readAllLines(path);
         int start = -1;
@@ -82,7 +111,6 @@ public final class FaceTest {
             DUE.is("line " + (i + 1) + " is of signs up to 126", line.chars().allMatch(c -> c >= 32 && c < 127), true);
             if (line.matches(" {4,8}(public|private) .*\\) (throws \\w+ )?\\{")) {
                 start = i;
-                DUE.is("parameters in line " + (i + 1), line.split(",").length > 7, false);
             }
             if (line.matches(" {4,8}\\}") && start >= 0) {
                 DUE.is("too many lines from line " + (start + 1), i - start + 1 > MOST_LINES, false);
@@ -94,6 +122,8 @@ public final class FaceTest {
     public static void main(String[] args) throws java.io.IOException {
         DUE.about("the face");
         face();
+        DUE.about("rules 5 and 11 of LANGUAGE.md");
+        allRooms();
         DUE.about("the file");
         source(Path.of(args.length > 0 ? args[0] : "src/main/java/CheekClause.java"));
         DUE.end("FaceTest");
