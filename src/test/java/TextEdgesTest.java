@@ -531,6 +531,25 @@ public final class TextEdgesTest {
         DUE.is("judge()", x.judge(), -2);
     }
 
+    private static void anyOrder() {
+        DUE.about("I: LINES of all sorts in any order, each NAME ahead of its use");
+        CheekClause x = DUE.told("city blur 0 slips 0 rain 0;deed a;man p" + lines("", ";did p day 1 kept", 6)
+                + lines("", ";clause x# on p ink 9 mustnt a", 5) + lines("", ";unsure x#", 5)
+                + ";deed b;man q;clause s on q ink 7 if b a;man r;deed c;clause t on r ink 8 either c b;clause u on p ink 9 must c");
+        int[] sizes = {0, 0, 0, 3, 3, 8, 5, 6, 0, 0, 0, 0};
+        for (int what = 0; what < sizes.length; what++) {
+            DUE.is("size(" + what + ")", x.size(what), sizes[what]);
+        }
+        DUE.is("man of the sixth", x.clause(5, 3), 1);
+        DUE.is("first deed of the sixth", x.clause(5, 1), 1);
+        DUE.is("second deed of the sixth", x.clause(5, 2), 0);
+        DUE.is("man of the seventh", x.clause(6, 3), 2);
+        DUE.is("deed of the eighth", x.clause(7, 1), 2);
+        // what was done is held against the clauses of the whole text: must c is one of them
+        DUE.is("judge()", x.judge(), 0);
+        DUE.is("fits()", x.fits(), 0);
+    }
+
     private static void didLine() {
         DUE.about("I: did MAN day WHOLE HOW (0 .. 40)");
         DUE.fine(BASE + ";did p day 0 kept", 1);
@@ -680,6 +699,7 @@ public final class TextEdgesTest {
         wordsLeftOut();
         unsureLine();
         rowsApart();
+        anyOrder();
         didLine();
         namesAndKeywords();
         namesNotTold();
